@@ -143,7 +143,7 @@ public final class WeighedSelf {
     }
 
     public int body(int p, int v) {
-        if (!now.hasOne(p) || !within(v, now.people[p].lean(), MOST_BODY)) {
+        if (!now.hasOne(p) || !within(v, leanOf(now.people[p].kind), MOST_BODY)) {
             return BAD;
         }
         int was = now.people[p].weight;
@@ -466,10 +466,6 @@ public final class WeighedSelf {
             days = other.days;
         }
 
-        int lean() {
-            return leanOf(kind);
-        }
-
         int meal() {
             return kind == ABBOT ? 3 : 2;
         }
@@ -583,13 +579,13 @@ public final class WeighedSelf {
                 return NONE;
             }
             int then = weight + who.growth(what);
-            return within(then, who.lean(), MOST_BODY) ? then : NONE;
+            return within(then, leanOf(who.kind), MOST_BODY) ? then : NONE;
         }
 
         /** The most goods for one of such a weight and limit at a frontier; NONE: he can not cross. */
         int roomFor(Person who, int weight, int limit, int f) {
             int left = limit - weight - errors[f] + 2;
-            if (left < 0 || weight + who.growth(REST) < who.lean()) {
+            if (left < 0 || weight + who.growth(REST) < leanOf(who.kind)) {
                 return NONE;
             }
             return Math.min(left, lawNow == GOODS_LAW ? MOST_GOODS_BY_LAW : MOST_GOODS);
@@ -879,32 +875,28 @@ public final class WeighedSelf {
                 token = SEMICOLON;
                 return true;
             }
-            if (isLetter()) {
-                while (isLetter()) {
-                    at++;
-                }
+            skipLetters();
+            if (at > place) {
                 token = NAME;
                 return true;
             }
-            return figures();
-        }
-
-        private boolean figures() {
-            value = 0;
-            while (isFigure()) {
-                value = value * 10 + (tape[at] - '0');
-                at++;
-            }
+            readFigures();
             token = NUMBER;
             return within(at - place, 1, FIGURES) || wrong(NO_TOKEN);
         }
 
-        private boolean isLetter() {
-            return at < length && within(tape[at], 'a', 'z');
+        private void skipLetters() {
+            while (at < length && tape[at] >= 'a' && tape[at] <= 'z') {
+                at++;
+            }
         }
 
-        private boolean isFigure() {
-            return at < length && within(tape[at], '0', '9');
+        private void readFigures() {
+            value = 0;
+            while (at < length && tape[at] >= '0' && tape[at] <= '9') {
+                value = value * 10 + (tape[at] - '0');
+                at++;
+            }
         }
 
         private boolean wrong(int which) {
@@ -1075,7 +1067,7 @@ public final class WeighedSelf {
 
         private void spreadDay(Realm realm, Person who, int daysAhead) {
             Arrays.fill(then, 0);
-            for (int weight = who.lean(); weight <= MOST_BODY; weight++) {
+            for (int weight = leanOf(who.kind); weight <= MOST_BODY; weight++) {
                 if (can[weight] == 1) {
                     for (int what = REST; what <= WALK; what++) {
                         int next = realm.bodyBehind(who, what, weight, daysAhead);
