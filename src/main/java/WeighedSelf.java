@@ -395,12 +395,7 @@ public final class WeighedSelf {
         if (!within(k, 0, SHEETS - 1) || !within(lane, 0, 2) || !within(n, 0, READ_DAYS)) {
             return BAD;
         }
-        // The machine casts ahead of every cell, and lets nothing pass as any lane.
-        if (sheets[k].there && sheets[k].lane != lane) {
-            tornBy = CAST_FAULT;
-            return 0;
-        }
-        return readDays(sheets[k], f, n);
+        return readDays(sheets[k], lane, f, n);
     }
 
     public int torn() {
@@ -419,13 +414,13 @@ public final class WeighedSelf {
         }
     }
 
-    private int readDays(Sheet from, int f, int n) {
+    private int readDays(Sheet from, int lane, int f, int n) {
         spare.become(now);
         for (int i = 0; i < n; i++) {
             int cell = f + 2 * i;
-            int found = from.faultAt(cell);
+            int found = from.faultTakenAs(lane, cell);
             if (found == 0) {
-                found = from.faultAt(cell + 1);
+                found = from.faultTakenAs(lane, cell + 1);
             }
             if (found != 0) {
                 tornBy = found;
@@ -1203,6 +1198,11 @@ public final class WeighedSelf {
                 return NULL_FAULT;
             }
             return within(i, 0, size - 1) ? 0 : INDEX_FAULT;
+        }
+
+        /** The same for a sheet taken as of a lane: the machine casts ahead of the index, but lets nothing pass. */
+        int faultTakenAs(int asLane, int i) {
+            return there && lane != asLane ? CAST_FAULT : faultAt(i);
         }
 
         int get(int i) {

@@ -509,17 +509,18 @@ final class Model {
     }
   }
 
+  static int cell(Object row, int lane, int i) {
+    return lane == 0 ? ((byte[]) row)[i] : lane == 1 ? ((short[]) row)[i] : ((int[]) row)[i];
+  }
+
   int read(int k, int lane, int f, int n) {
     if (!in(k, 0, 3) || !in(lane, 0, 2) || !in(n, 0, 20)) return BAD;
     World before = now.copy();
     int i = 0, found = 0;
     try {
-      byte[] bytes = lane == 0 ? (byte[]) sheets[k] : null;
-      short[] shorts = lane == 1 ? (short[]) sheets[k] : null;
-      int[] ints = lane == 2 ? (int[]) sheets[k] : null;
       for (; i < n; i++) {
-        int p = lane == 0 ? bytes[f + 2 * i] : lane == 1 ? shorts[f + 2 * i] : ints[f + 2 * i];
-        int what = lane == 0 ? bytes[f + 2 * i + 1] : lane == 1 ? shorts[f + 2 * i + 1] : ints[f + 2 * i + 1];
+        int p = cell(sheets[k], lane, f + 2 * i);
+        int what = cell(sheets[k], lane, f + 2 * i + 1);
         if (day(p, what) < 0) {
           now = before;
           return -20 - i;

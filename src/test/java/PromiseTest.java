@@ -908,14 +908,33 @@ public final class PromiseTest {
     due("NULL", x.torn(), 1);
     x.read(0, 0, 0, 1);
     due("none", x.torn(), 0);
-    x.read(0, 2, 0, 0);
-    due("the machine casts for no days, too", x.torn(), 3);
-    x.read(2, 2, 0, 0);
-    due("no cell of nothing is read for no days", x.torn(), 0);
+    x.read(0, 2, -1, 1);
+    due("CAST is found ahead of INDEX", x.torn(), 3);
+    x.read(2, 2, -1, 1);
+    due("NULL is found ahead of INDEX", x.torn(), 1);
+    x.read(0, 2, 4, 20);
+    due("CAST past the end", x.torn(), 3);
     x.read(0, 0, -7, 1);
     due("INDEX below 0", x.torn(), 2);
-    x.read(0, 0, 99, 0);
-    due("no cell is read for no days", x.torn(), 0);
+    tornByNoDays();
+  }
+
+  /** For no days no cell is asked for: the machine refuses nothing, and the fault ahead is past. */
+  private static void tornByNoDays() {
+    WeighedSelf x = new WeighedSelf();
+    x.sheet(0, 0, 0);
+    x.sheet(1, 1, 40);
+    x.sheet(2, 2, 1);
+    for (int k = 0; k < 4; k++) {
+      for (int lane = 0; lane < 3; lane++) {
+        for (int f : new int[] {-1, 0, 40, Integer.MAX_VALUE}) {
+          x.read(3, 0, 0, 1);
+          due("NULL ahead of it", x.torn(), 1);
+          due("no days of sheet " + k + " as of lane " + lane, x.read(k, lane, f, 0), 0);
+          due("no FAULT of sheet " + k + " as of lane " + lane, x.torn(), 0);
+        }
+      }
+    }
   }
 
   private static void counts() {
