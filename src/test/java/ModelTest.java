@@ -2,7 +2,7 @@ import java.util.Random;
 
 /** Long runs of calls by fixed seeds: the class and the model must answer alike, call by call. */
 public final class ModelTest {
-  private static final int RUNS = 1500;
+  private static final int RUNS = 2500;
   private static int wrong;
   private static StringBuilder told;
 
@@ -35,10 +35,11 @@ public final class ModelTest {
 
   private void run(int seed) {
     if (random.nextInt(8) > 0) tell(goodText());
-    while (calls < 440 && same) {
+    // A turn is 120 calls at most (a text, a step, a look at all), and an object is used for 512.
+    while (calls < 390 && same) {
       if (random.nextInt(40) == 0) tell(random.nextInt(3) == 0 ? goodText() : badText(goodText()));
       step();
-      if (random.nextInt(10) == 0) lookAtAll();
+      if (random.nextInt(20) == 0) lookAtAll();
     }
   }
 
@@ -118,7 +119,6 @@ public final class ModelTest {
       due("rule " + what, x.rule(what), m.rule(what));
       due("count " + what, x.count(what), m.count(what));
       for (int p = -1; p < 5; p++) due("one " + p + " " + what, x.one(p, what), m.one(p, what));
-      calls -= 7;
     }
     due("torn()", x.torn(), m.torn());
   }
