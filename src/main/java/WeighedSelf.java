@@ -461,14 +461,15 @@ public final class WeighedSelf {
             days = other.days;
         }
 
+        /** What is eaten is as much as the body grows by it. */
         int meal() {
-            return kind == ABBOT ? 3 : 2;
+            return growth(EAT);
         }
 
         /** By how much the body grows on a day of rest, eating or walking. */
         int growth(int what) {
             if (what == EAT) {
-                return meal();
+                return kind == ABBOT ? 3 : 2;
             }
             if (what == WALK) {
                 return kind == WALKER ? -1 : -2;

@@ -4,9 +4,12 @@ import java.lang.reflect.Method;
 import java.lang.reflect.Modifier;
 import java.nio.file.Files;
 import java.nio.file.Path;
+import java.util.ArrayList;
 import java.util.Arrays;
 import java.util.List;
+import java.util.Map;
 import java.util.Set;
+import java.util.TreeMap;
 import java.util.TreeSet;
 import java.util.regex.Matcher;
 import java.util.regex.Pattern;
@@ -99,6 +102,37 @@ public final class FaceTest {
     while (imports.find()) due(Set.of("java.util.Arrays", "java.util.ArrayList", "java.util.List").contains(imports.group(1)), imports.group());
     for (char ch : raw.toCharArray()) due(ch < 128, "a sign past 127 in the source");
     due(longestMethod(code) <= 60, "a method is too long: " + longestMethod(code));
+    callsAreShallow(code);
+  }
+
+  /** Rule 11: calls go at most eight deep, one that comes again (a recursion) counted once; the names tell who calls whom. */
+  private static void callsAreShallow(String code) {
+    Map<String, Set<String>> calls = new TreeMap<>();
+    Matcher methods = Pattern.compile("(?ms)^( {4}| {8})(?=\\S)[\\w\\[\\] ]+ (\\w+)\\([^()]*\\) \\{$(.*?)^\\1\\}$").matcher(code);
+    while (methods.find()) {
+      Set<String> called = calls.computeIfAbsent(methods.group(2), name -> new TreeSet<>());
+      Matcher names = Pattern.compile("(?<!new )\\b(\\w+)\\(").matcher(methods.group(3));
+      while (names.find()) called.add(names.group(1));
+    }
+    for (String name : calls.keySet()) {
+      List<String> chain = longestChain(name, calls, Set.of());
+      due(chain.size() <= 8, "calls go too deep: " + chain);
+    }
+    due(calls.size() > 80 && longestChain("text", calls, Set.of()).size() > 5, "the calls of the source were not found: " + calls);
+  }
+
+  private static List<String> longestChain(String name, Map<String, Set<String>> calls, Set<String> open) {
+    Set<String> openThen = new TreeSet<>(open);
+    openThen.add(name);
+    List<String> longest = List.of();
+    for (String next : calls.get(name)) {
+      if (!calls.containsKey(next) || openThen.contains(next)) continue;
+      List<String> chain = longestChain(next, calls, openThen);
+      if (chain.size() > longest.size()) longest = chain;
+    }
+    List<String> whole = new ArrayList<>(List.of(name));
+    whole.addAll(longest);
+    return whole;
   }
 
   /** The most lines between an opening brace of a method and its end, by the indents of this source. */
